@@ -15,6 +15,7 @@ public final class CoseTest {
         claims();
         audiences();
         longest();
+        oneDeskForMany();
         Bench.close();
     }
 
@@ -95,6 +96,12 @@ public final class CoseTest {
             "9b0000000100000000", "bb0000000100000000", "81f7", "81c000", "a100f7", "a1f700", "a1c00000", "00 00"};
         for (String item : bad) {
             dueItem(item, 1);
+        }
+        for (int info = 28; info < 32; info++) {
+            for (int type = 0; type < 8; type++) {
+                dueItem(String.format("%02x", type << 5 | info) + "ff".repeat(1 << (info - 24)), 1);
+                dueItem(String.format("%02x", type << 5 | info) + "00".repeat(1 << (info - 24)), 1);
+            }
         }
         for (int first = 0; first < 256; first++) {
             boolean whole = first < 0x18 || first >= 0x20 && first < 0x38 || first == 0x40 || first == 0x60 || first == 0x80 || first == 0xa0
@@ -286,6 +293,17 @@ public final class CoseTest {
         }
         duePayload("a2 03 6161 07 981e" + "6161".repeat(30), 0);
         duePayload("a2 03 816161 07 8100", 0);
+    }
+
+    /** What earlier tokens held takes no room from later ones. */
+    private static void oneDeskForMany() {
+        TokenDesk x = desk();
+        for (int i = 0; i < 30; i++) {
+            byte[] payload = Bench.hex("a2 01" + texted(200) + "02" + texted(200));
+            due("texts", x, Bench.cose(Bench.hex(HEADER), payload, 0, SECRET), 0);
+            Bench.due("the last sign", x.sign(1, 0, 199), 'a');
+            due("broken", x, Bench.cose(Bench.hex(HEADER), java.util.Arrays.copyOf(payload, payload.length - 1), 0, SECRET), 1);
+        }
     }
 
     private static void longest() {

@@ -16,6 +16,7 @@ public final class JwsTest {
         claims();
         audiences();
         longest();
+        oneDeskForMany();
         Bench.close();
     }
 
@@ -261,8 +262,8 @@ public final class JwsTest {
         }
         duePayload("{\"iss\":\"" + "a".repeat(200) + "\",\"sub\":\"" + "b".repeat(200) + "\",\"aud\":\"" + "c".repeat(200) + "\"}", 0);
         for (String name : new String[] {"exp", "nbf", "iat"}) {
-            String[] bad = {"null", "\"1\"", "[1]", "[]", "{}", "false", "-1", "1.0", "1e1", "1E1", "0.5", "-0.0", "0e0", "9007199254740993",
-                "-9007199254740992", "-9007199254740993", "99999999999999999999", "18446744073709551616", "18446744073709551617",
+            String[] bad = {"null", "\"1\"", "[1]", "[]", "{}", "false", "-1", "1.0", "1e1", "1E1", "0.5", "-0.0", "0e0", "9007199254740993", "90071992547409920",
+                "90071992547409929", "-9007199254740992", "-9007199254740993", "99999999999999999999", "18446744073709551616", "18446744073709551617",
                 "92233720368547758080"};
             for (String value : bad) {
                 duePayload("{\"" + name + "\":" + value + "}", 6);
@@ -301,6 +302,23 @@ public final class JwsTest {
         }
         duePayload("{\"x\":" + list(30, "\"a\"") + ",\"aud\":[\"a\"]}", 0);
         duePayload("{\"x\":{\"aud\":[1]},\"aud\":[\"a\"]}", 0);
+    }
+
+    /** What earlier tokens held takes no room from later ones. */
+    private static void oneDeskForMany() {
+        TokenDesk x = desk();
+        StringBuilder many = new StringBuilder("{\"\":0");
+        for (int i = 0; i < 100; i++) {
+            many.append(",\"").append(i).append("\":0");
+        }
+        String text = "abcdefghij".repeat(20);
+        for (int i = 0; i < 20; i++) {
+            due("broken", x, Bench.jws(HEADER, many + ",", 0, SECRET), 1);
+            due("broken in an inner one", x, Bench.jws(HEADER, "{\"x\":" + many + ",", 0, SECRET), 1);
+            due("whole", x, Bench.jws(HEADER, many + "}", 0, SECRET), 0);
+            due("texts", x, Bench.jws(HEADER, "{\"iss\":\"" + text + "\",\"sub\":\"" + text + "\"}", 0, SECRET), 0);
+            Bench.due("the last sign", x.sign(1, 0, 199), 'j');
+        }
     }
 
     private static void longest() {

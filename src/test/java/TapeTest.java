@@ -9,6 +9,7 @@ public final class TapeTest {
         end();
         hashEdges();
         hashFollowsTape();
+        hashIsNeverStale();
         hashOfEachLength();
         Bench.close();
     }
@@ -114,6 +115,43 @@ public final class TapeTest {
         dueHash("of a key", x, Bench.ascii("cf"));
         x.key(0, 1);
         dueHash("a key", x, new byte[0]);
+    }
+
+    /** One hash alone is asked for again and again, with one call between that makes the TAPE another one. */
+    private static void hashIsNeverStale() throws Exception {
+        for (int alg = 0; alg < 2; alg++) {
+            TokenDesk x = new TokenDesk();
+            Bench.addKey(x, 0, "k", Bench.ascii("secret"));
+            int size = x.issue(1, 0);
+            byte[] twenty = Bench.hex("00000001 00000002 00000003 00000004 00000005");
+            dueFirstByte("none", x, alg, new byte[0]);
+            x.feed(1, 2, 3, 4, 5);
+            dueFirstByte("fed", x, alg, twenty);
+            x.feed(1, 2, 3, 4, 5);
+            dueFirstByte("fed again", x, alg, Bench.join(twenty, twenty));
+            x.end(20);
+            dueFirstByte("cut", x, alg, twenty);
+            x.end(20);
+            dueFirstByte("not cut", x, alg, twenty);
+            x.issue(0, 0);
+            dueFirstByte("between MACs", x, alg, twenty);
+            x.issue(1, 0);
+            x.end(0);
+            x.back(0, size);
+            dueFirstByte("brought back", x, alg, Bench.out(x));
+            x.verify(1);
+            dueFirstByte("verified", x, alg, new byte[0]);
+            x.feed(0x61616161, 0x61616161, 0x61616161, 0x61616161, 0x61616161);
+            dueFirstByte("a text", x, alg, Bench.ascii("a".repeat(20)));
+            x.text(0);
+            dueFirstByte("no text", x, alg, new byte[0]);
+        }
+    }
+
+    private static void dueFirstByte(String what, TokenDesk x, int alg, byte[] tape) throws Exception {
+        byte[] want = MessageDigest.getInstance(alg == 0 ? "SHA-256" : "SHA-512").digest(tape);
+        Bench.due(what + ": hash(" + alg + ", 0)", x.hash(alg, 0), want[0] & 255);
+        Bench.due(what + ": hash(" + alg + ", 31)", x.hash(alg, 31), want[31] & 255);
     }
 
     private static void hashOfEachLength() throws Exception {
