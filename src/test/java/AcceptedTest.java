@@ -13,21 +13,21 @@ public final class AcceptedTest {
         Bench.close();
     }
 
-    private static TokenDesk desk() {
-        TokenDesk x = new TokenDesk();
+    private static Desk desk() {
+        Desk x = new Desk();
         Bench.addKey(x, 0, "q", SECRET);
         return x;
     }
 
-    private static void accept(TokenDesk x, String payload) {
+    private static void accept(Desk x, String payload) {
         Bench.due("payload " + payload, Bench.verify(x, 0, Bench.jws("{\"alg\":\"HS256\",\"kid\":\"q\"}", payload, 0, SECRET)), 0);
     }
 
-    private static void acceptCose(TokenDesk x, String payload) {
+    private static void acceptCose(Desk x, String payload) {
         Bench.due("payload " + payload, Bench.verify(x, 1, Bench.cose(Bench.hex("a10105"), Bench.hex(payload), 0, SECRET)), 0);
     }
 
-    private static void dueText(TokenDesk x, int claim, int k, String want) {
+    private static void dueText(Desk x, int claim, int k, String want) {
         for (int i = 0; i < want.length(); i++) {
             Bench.due("sign(" + claim + ", " + k + ", " + i + ")", x.sign(claim, k, i), want.charAt(i));
         }
@@ -37,7 +37,7 @@ public final class AcceptedTest {
     }
 
     private static void texts() {
-        TokenDesk x = desk();
+        Desk x = desk();
         accept(x, "{\"iss\":\"a\\\"\\\\\\/\\b\\f\\n\\r\\t\\u0000\\uFFFF\\ud800\\u00e4~\",\"x\":\"between\",\"sub\":\"\"}");
         String want = "a\"\\/\b\f\n\r\t\u0000\uFFFF\ud800\u00e4~";
         Bench.due("has(0)", x.has(0), want.length());
@@ -64,7 +64,7 @@ public final class AcceptedTest {
     }
 
     private static void numbers() {
-        TokenDesk x = desk();
+        Desk x = desk();
         accept(x, "{\"exp\":9007199254740992,\"nbf\":0,\"iat\":-0}");
         Bench.due("claim(3)", x.claim(3), MOST);
         Bench.due("claim(4)", x.claim(4), 0);
@@ -89,7 +89,7 @@ public final class AcceptedTest {
     }
 
     private static void audiences() {
-        TokenDesk x = desk();
+        Desk x = desk();
         accept(x, "{\"aud\":\"abc\"}");
         Bench.due("has(2)", x.has(2), 3);
         Bench.due("count(1)", x.count(1), 1);
@@ -124,7 +124,7 @@ public final class AcceptedTest {
 
     /** What is refused leaves all that is told as it was. */
     private static void latest() {
-        TokenDesk x = desk();
+        Desk x = desk();
         accept(x, "{\"iss\":\"first\",\"aud\":[\"a\",\"b\"],\"exp\":7}");
         String[] refused = {"{\"iss\":\"other\",\"aud\":[\"c\"],\"exp\":0}", "{\"iss\":\"other\",\"sub\":1}", "{\"iss\":\"other\"", "{\"iat\":1}"};
         for (String payload : refused) {
@@ -156,7 +156,7 @@ public final class AcceptedTest {
     }
 
     private static void counts() {
-        TokenDesk x = desk();
+        Desk x = desk();
         Bench.addKey(x, 1, "r", SECRET);
         Bench.verify(x, 0, Bench.ascii("x"));
         Bench.due("count(0) before one", x.count(0), -1);
@@ -182,7 +182,7 @@ public final class AcceptedTest {
 
     /** What the desk ISSUED is ACCEPTED, and tells the same CLAIMS. */
     private static void roundTrip() {
-        TokenDesk x = new TokenDesk();
+        Desk x = new Desk();
         Bench.addKey(x, 0, "\"\\", SECRET);
         Bench.addKey(x, 1, " ", SECRET);
         String[] texts = {"a\"b\\c", "", "~ /" + "\\".repeat(37)};

@@ -1,5 +1,6 @@
 import java.io.ByteArrayOutputStream;
 import java.nio.charset.StandardCharsets;
+import java.security.MessageDigest;
 import java.util.Base64;
 import javax.crypto.Mac;
 import javax.crypto.spec.SecretKeySpec;
@@ -22,6 +23,10 @@ final class Bench {
 
     static void due(String what, boolean got, boolean want) {
         due(what, got ? 1 : 0, want ? 1 : 0);
+    }
+
+    static int asked() {
+        return asked;
     }
 
     static void close() {
@@ -53,7 +58,7 @@ final class Bench {
     }
 
     /** Puts bytes behind the TAPE, as many as there are. */
-    static void put(TokenDesk x, byte[] bytes) {
+    static void put(Desk x, byte[] bytes) {
         int before = x.count(6);
         for (int at = 0; at < bytes.length; at += 20) {
             int[] words = new int[5];
@@ -66,17 +71,17 @@ final class Bench {
         x.end(before + bytes.length);
     }
 
-    static void put(TokenDesk x, String text) {
+    static void put(Desk x, String text) {
         put(x, ascii(text));
     }
 
-    static int addKey(TokenDesk x, int alg, String kid, byte[] secret) {
+    static int addKey(Desk x, int alg, String kid, byte[] secret) {
         x.end(0);
         put(x, join(ascii(kid), secret));
         return x.key(alg, kid.length());
     }
 
-    static int verify(TokenDesk x, int family, byte[] token) {
+    static int verify(Desk x, int family, byte[] token) {
         x.end(0);
         put(x, token);
         return x.verify(family);
@@ -131,15 +136,15 @@ final class Bench {
         return join(hex("d184"), row(header), hex("a0"), row(payload), row(mac(alg, secret, secured)));
     }
 
-    static byte[] out(TokenDesk x) {
-        byte[] bytes = new byte[x.count(7)];
+    static byte[] out(Desk x) {
+        byte[] bytes = new byte[Math.max(x.count(7), 0)];
         for (int i = 0; i < bytes.length; i++) {
             bytes[i] = (byte) x.octet(i);
         }
         return bytes;
     }
 
-    static void dueOut(String what, TokenDesk x, byte[] want) {
+    static void dueOut(String what, Desk x, byte[] want) {
         byte[] got = out(x);
         boolean same = java.util.Arrays.equals(got, want);
         due(what, same, true);
@@ -147,5 +152,30 @@ final class Bench {
             System.out.println("  got  " + new String(got, StandardCharsets.ISO_8859_1));
             System.out.println("  want " + new String(want, StandardCharsets.ISO_8859_1));
         }
+    }
+
+    static byte[] digest(int alg, byte[] bytes) {
+        try {
+            return MessageDigest.getInstance(alg == 0 ? "SHA-256" : "SHA-512").digest(bytes);
+        } catch (java.security.GeneralSecurityException e) {
+            throw new IllegalStateException(e);
+        }
+    }
+
+    /** The TAPE is these bytes, as its length and its hash tell. */
+    static void dueTape(String what, Desk x, byte[] want) {
+        due(what + ": the TAPE's length", x.count(6), want.length);
+        byte[] sum = digest(0, want);
+        for (int i = 0; i < 16; i++) {
+            due(what + ": the TAPE's hash, byte " + i, x.hash(0, i), sum[i] & 255);
+        }
+    }
+
+    /** Like dueOut(), by fewer calls than one for each byte; the TAPE is OUT's copy then. */
+    static void dueOutOnTape(String what, Desk x, byte[] want) {
+        due(what + ": OUT's length", x.count(7), want.length);
+        x.end(0);
+        x.back(0, want.length);
+        dueTape(what + ": OUT", x, want);
     }
 }

@@ -19,13 +19,13 @@ public final class CoseTest {
         Bench.close();
     }
 
-    private static TokenDesk desk() {
-        TokenDesk x = new TokenDesk();
+    private static Desk desk() {
+        Desk x = new Desk();
         Bench.addKey(x, 0, "q", SECRET);
         return x;
     }
 
-    private static void due(String what, TokenDesk x, byte[] token, int want) {
+    private static void due(String what, Desk x, byte[] token, int want) {
         int accepted = x.count(2);
         int refused = x.count(3);
         Bench.due(what, Bench.verify(x, 1, token), want);
@@ -48,11 +48,11 @@ public final class CoseTest {
     }
 
     private static void frame() {
-        TokenDesk x = desk();
+        Desk x = desk();
         byte[] token = Bench.cose(Bench.hex(HEADER), Bench.hex("a0"), 0, SECRET);
         due("a token", x, token, 0);
         for (int size = 0; size < token.length; size++) {
-            due("its first " + size, x, java.util.Arrays.copyOf(token, size), 1);
+            due("its first " + size, desk(), java.util.Arrays.copyOf(token, size), 1);
         }
         due("a byte behind", x, Bench.join(token, new byte[1]), 1);
         due("a byte ahead", x, Bench.join(new byte[1], token), 1);
@@ -71,11 +71,11 @@ public final class CoseTest {
             "d184 43a10105 a0 5a7fffffff", "d184 43a10105 a0 5affffffff", "d184 43a10105 a0 59ffff",
         };
         for (String token1 : bad) {
-            due("frame " + token1, x, Bench.hex(token1 + tail), 1);
+            due("frame " + token1, desk(), Bench.hex(token1 + tail), 1);
         }
         String[] tails = {"", "6100", "00", "f6", "80", "58", "580100", "5f4100ff", "4100 00", "42 00", "5bffffffffffffffff00", "a0", "40 40"};
         for (String end : tails) {
-            due("tail " + end, x, Bench.hex("d184 43a10105 a0 41a0" + end), 1);
+            due("tail " + end, desk(), Bench.hex("d184 43a10105 a0 41a0" + end), 1);
         }
         due("a JWS", x, Bench.jws("{\"alg\":\"HS256\"}", "{}", 0, SECRET), 1);
         Bench.due("a COSE as JWS", Bench.verify(x, 0, token), 1);
@@ -206,9 +206,9 @@ public final class CoseTest {
         for (String header : good) {
             dueHeader(header, 0);
         }
-        TokenDesk none = new TokenDesk();
+        Desk none = new Desk();
         due("no KEY", none, Bench.cose(Bench.hex(HEADER), Bench.hex("a0"), 0, SECRET), 3);
-        TokenDesk two = desk();
+        Desk two = desk();
         Bench.addKey(two, 1, "rr", Bench.ascii("other"));
         due("two KEYS, no kid", two, Bench.cose(Bench.hex(HEADER), Bench.hex("a0"), 0, SECRET), 3);
         due("two KEYS, first kid", two, Bench.cose(Bench.hex("a2 01 05 04 4171"), Bench.hex("a0"), 0, SECRET), 0);
@@ -297,8 +297,8 @@ public final class CoseTest {
 
     /** What earlier tokens held takes no room from later ones. */
     private static void oneDeskForMany() {
-        TokenDesk x = desk();
-        for (int i = 0; i < 30; i++) {
+        Desk x = desk();
+        for (int i = 0; i < 7; i++) {
             byte[] payload = Bench.hex("a2 01" + texted(200) + "02" + texted(200));
             due("texts", x, Bench.cose(Bench.hex(HEADER), payload, 0, SECRET), 0);
             Bench.due("the last sign", x.sign(1, 0, 199), 'a');

@@ -30,7 +30,7 @@ public final class DifferenceTest {
     }
 
     private static void round(int round) {
-        TokenDesk x = new TokenDesk();
+        Desk x = new Desk();
         Reference r = new Reference();
         int keys = random.nextInt(4);
         for (int i = 0; i < keys; i++) {
@@ -44,7 +44,7 @@ public final class DifferenceTest {
         }
         Bench.due("KEYS", x.count(5), r.keys.size());
         setPolicy(x, r);
-        for (int i = 0; i < 12; i++) {
+        for (int i = 0; i < 12 && x.callsLeft() > 250; i++) {
             int family = random.nextInt(2);
             byte[] token = family == 0 ? jws(r) : cose(r);
             if (token.length > 1500) {
@@ -59,7 +59,7 @@ public final class DifferenceTest {
         }
     }
 
-    private static void setPolicy(TokenDesk x, Reference r) {
+    private static void setPolicy(Desk x, Reference r) {
         r.now = random.nextInt(30);
         x.now(r.now);
         r.leeway = random.nextInt(4);
@@ -77,7 +77,7 @@ public final class DifferenceTest {
         }
     }
 
-    private static void dueAccepted(String what, TokenDesk x, Reference r) {
+    private static void dueAccepted(String what, Desk x, Reference r) {
         if (r.body == null) {
             Bench.due(what + ": none yet", x.count(0), -1);
             return;
@@ -101,8 +101,9 @@ public final class DifferenceTest {
         Bench.due(what + ": no more of AUD", x.sign(2, aud.size(), 0), -1);
     }
 
-    private static void dueSigns(String what, TokenDesk x, int claim, int k, String text) {
-        for (int i = 0; i <= text.length(); i++) {
+    private static void dueSigns(String what, Desk x, int claim, int k, String text) {
+        // Of a long text some signs must do: a desk has 512 calls.
+        for (int i = 0; i <= text.length(); i += i < 3 || i > text.length() - 3 ? 1 : text.length() - 5) {
             Bench.due(what + ": sign " + claim, x.sign(claim, k, i), i < text.length() ? text.charAt(i) : -1);
         }
     }
@@ -280,8 +281,8 @@ public final class DifferenceTest {
     /** No call throws, whatever its arguments, in whatever state. */
     private static void wildCalls() {
         for (int run = 0; run < 400; run++) {
-            TokenDesk x = new TokenDesk();
-            for (int i = 0; i < 512; i++) {
+            Desk x = new Desk();
+            while (x.callsLeft() > 10) {
                 wildCall(x);
             }
             Bench.due("the TAPE holds", x.count(6) >= 0 && x.count(6) <= 1500, true);
@@ -293,7 +294,7 @@ public final class DifferenceTest {
         return chance(70) ? random.nextInt(10) - 2 : chance(50) ? random.nextInt() : oneOf(List.of(Integer.MIN_VALUE, Integer.MAX_VALUE, 1500, 600, 40));
     }
 
-    private static void wildCall(TokenDesk x) {
+    private static void wildCall(Desk x) {
         int a = wild();
         int b = wild();
         switch (random.nextInt(19)) {

@@ -14,7 +14,7 @@ public final class KeyTest {
     }
 
     private static void numbers() {
-        TokenDesk x = new TokenDesk();
+        Desk x = new Desk();
         for (int i = 0; i < 6; i++) {
             Bench.due("key " + i, Bench.addKey(x, i % 2, "k" + i, SECRET), i);
             Bench.due("keys", x.count(5), i + 1);
@@ -26,7 +26,7 @@ public final class KeyTest {
     }
 
     private static void kids() {
-        TokenDesk x = new TokenDesk();
+        Desk x = new Desk();
         Bench.put(x, "abc");
         Bench.due("key(0, 0)", x.key(0, 0), -1);
         Bench.due("empty after it", x.count(6), 0);
@@ -57,7 +57,7 @@ public final class KeyTest {
     }
 
     private static void secrets() {
-        TokenDesk x = new TokenDesk();
+        Desk x = new Desk();
         Bench.due("a secret of 65", Bench.addKey(x, 0, "a", new byte[65]), -1);
         Bench.due("a secret of 64", Bench.addKey(x, 0, "a", new byte[64]), 0);
         Bench.due("a secret of 1", Bench.addKey(x, 0, "b", new byte[1]), 1);
@@ -67,7 +67,7 @@ public final class KeyTest {
     }
 
     private static void algs() {
-        TokenDesk x = new TokenDesk();
+        Desk x = new Desk();
         Bench.due("alg -1", Bench.addKey(x, -1, "a", SECRET), -1);
         Bench.due("the TAPE is empty", x.count(6), 0);
         Bench.due("alg 2", Bench.addKey(x, 2, "a", SECRET), -1);
@@ -79,7 +79,7 @@ public final class KeyTest {
     private static void secretsThatSign() {
         for (int alg = 0; alg < 2; alg++) {
             for (int size = 1; size <= 64; size++) {
-                TokenDesk x = new TokenDesk();
+                Desk x = new Desk();
                 byte[] secret = new byte[size];
                 Arrays.fill(secret, (byte) (255 - size));
                 secret[size - 1] = (byte) size;

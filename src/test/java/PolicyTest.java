@@ -16,22 +16,22 @@ public final class PolicyTest {
         Bench.close();
     }
 
-    private static TokenDesk desk() {
-        TokenDesk x = new TokenDesk();
+    private static Desk desk() {
+        Desk x = new Desk();
         Bench.addKey(x, 0, "q", SECRET);
         return x;
     }
 
-    private static void due(TokenDesk x, String payload, int want) {
+    private static void due(Desk x, String payload, int want) {
         Bench.due("payload " + payload, Bench.verify(x, 0, Bench.jws("{\"alg\":\"HS256\"}", payload, 0, SECRET)), want);
     }
 
-    private static void dueCose(TokenDesk x, String payload, int want) {
+    private static void dueCose(Desk x, String payload, int want) {
         Bench.due("payload " + payload, Bench.verify(x, 1, Bench.cose(Bench.hex("a10105"), Bench.hex(payload), 0, SECRET)), want);
     }
 
     private static void nowEdges() {
-        TokenDesk x = desk();
+        Desk x = desk();
         due(x, "{\"iat\":1}", 8);
         due(x, "{\"iat\":0}", 0);
         Bench.due("now(5)", x.now(5), true);
@@ -51,7 +51,7 @@ public final class PolicyTest {
     }
 
     private static void policyEdges() {
-        TokenDesk x = desk();
+        Desk x = desk();
         x.now(1000);
         Bench.due("policy(600, false)", x.policy(600, false), true);
         Bench.due("policy(-1, true)", x.policy(-1, true), false);
@@ -71,13 +71,13 @@ public final class PolicyTest {
         due(x, "{}", 0);
     }
 
-    private static void refuseWants(TokenDesk x, int what, String text) {
+    private static void refuseWants(Desk x, int what, String text) {
         Bench.put(x, text);
         Bench.due("no wants(" + what + ") " + text, x.wants(what), -1);
         Bench.due("the TAPE is empty all the same", x.count(6), 0);
     }
 
-    private static void setWants(TokenDesk x, int what, String text) {
+    private static void setWants(Desk x, int what, String text) {
         Bench.put(x, text);
         Bench.due("wants(" + what + ") " + text, x.wants(what), text.length());
         Bench.due("the TAPE is empty", x.count(6), 0);
@@ -87,7 +87,7 @@ public final class PolicyTest {
         for (int what = 0; what < 2; what++) {
             String name = what == 0 ? "iss" : "aud";
             int reason = 9 + what;
-            TokenDesk x = desk();
+            Desk x = desk();
             due(x, "{}", 0);
             String forty = " ~" + "a".repeat(38);
             setWants(x, what, forty);
@@ -113,7 +113,7 @@ public final class PolicyTest {
     }
 
     private static void expired() {
-        TokenDesk x = desk();
+        Desk x = desk();
         x.now(100);
         due(x, "{\"exp\":100}", 7);
         due(x, "{\"exp\":99}", 7);
@@ -132,7 +132,7 @@ public final class PolicyTest {
     }
 
     private static void expWanted() {
-        TokenDesk x = desk();
+        Desk x = desk();
         x.policy(0, true);
         due(x, "{\"iss\":\"a\"}", 7);
         dueCose(x, "a0", 7);
@@ -141,7 +141,7 @@ public final class PolicyTest {
     }
 
     private static void early() {
-        TokenDesk x = desk();
+        Desk x = desk();
         x.now(100);
         for (String name : new String[] {"nbf", "iat"}) {
             x.policy(0, false);
@@ -161,7 +161,7 @@ public final class PolicyTest {
     }
 
     private static void issuers() {
-        TokenDesk x = desk();
+        Desk x = desk();
         setWants(x, 0, "a\"b");
         due(x, "{\"iss\":\"a\\\"b\"}", 0);
         due(x, "{\"iss\":\"\\u0061\\u0022\\u0062\"}", 0);
@@ -177,7 +177,7 @@ public final class PolicyTest {
     }
 
     private static void audiences() {
-        TokenDesk x = desk();
+        Desk x = desk();
         setWants(x, 1, "a");
         due(x, "{\"aud\":\"a\"}", 0);
         due(x, "{\"aud\":\"b\"}", 10);
@@ -199,7 +199,7 @@ public final class PolicyTest {
 
     /** Each token has all that is wrong from a reason on: the first one is told. */
     private static void order() {
-        TokenDesk x = desk();
+        Desk x = desk();
         Bench.addKey(x, 1, "r", SECRET);
         x.now(100);
         x.policy(0, true);

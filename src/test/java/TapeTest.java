@@ -15,7 +15,7 @@ public final class TapeTest {
     }
 
     private static void newDesk() {
-        TokenDesk x = new TokenDesk();
+        Desk x = new Desk();
         int[] want = {-1, -1, 0, 0, 0, 0, 0, 0};
         for (int what = 0; what < want.length; what++) {
             Bench.due("new: count(" + what + ")", x.count(what), want[what]);
@@ -34,7 +34,7 @@ public final class TapeTest {
     }
 
     private static void feed() throws Exception {
-        TokenDesk x = new TokenDesk();
+        Desk x = new Desk();
         Bench.due("feed", x.feed(0x01020304, 0x05060708, 0x090a0b0c, 0x80ff7f00, -2), 20);
         byte[] want = Bench.hex("01020304 05060708 090a0b0c 80ff7f00 fffffffe");
         dueHash("the order of feed's bytes", x, want);
@@ -51,7 +51,7 @@ public final class TapeTest {
     }
 
     private static void end() throws Exception {
-        TokenDesk x = new TokenDesk();
+        Desk x = new Desk();
         Bench.due("end(0) of none", x.end(0), 0);
         Bench.due("end(1) of none", x.end(1), -1);
         Bench.put(x, "abcdef");
@@ -70,7 +70,7 @@ public final class TapeTest {
     }
 
     private static void hashEdges() {
-        TokenDesk x = new TokenDesk();
+        Desk x = new Desk();
         Bench.put(x, "abc");
         Bench.due("hash(0, -1)", x.hash(0, -1), -1);
         Bench.due("hash(0, 31)", x.hash(0, 31), 0xad);
@@ -87,40 +87,40 @@ public final class TapeTest {
 
     /** The hash is of the TAPE as it is now, whatever made it another one. */
     private static void hashFollowsTape() throws Exception {
-        TokenDesk x = new TokenDesk();
+        Desk x = new Desk();
         Bench.addKey(x, 0, "k", Bench.ascii("secret"));
         x.issue(0, 0);
         byte[] out = Bench.out(x);
         Bench.put(x, "abc");
-        dueHash("fed", x, Bench.ascii("abc"));
+        dueHash("fed", x, Bench.ascii("abc"), 5);
         x.end(2);
-        dueHash("cut", x, Bench.ascii("ab"));
+        dueHash("cut", x, Bench.ascii("ab"), 5);
         x.back(0, out.length);
-        dueHash("brought back", x, Bench.join(Bench.ascii("ab"), out));
+        dueHash("brought back", x, Bench.join(Bench.ascii("ab"), out), 5);
         x.verify(0);
-        dueHash("verified", x, new byte[0]);
+        dueHash("verified", x, new byte[0], 5);
         Bench.put(x, "ab");
         x.verify(2);
-        dueHash("not verified", x, Bench.ascii("ab"));
+        dueHash("not verified", x, Bench.ascii("ab"), 5);
         x.text(0);
-        dueHash("a text", x, new byte[0]);
+        dueHash("a text", x, new byte[0], 5);
         Bench.put(x, "cd");
-        dueHash("the same length", x, Bench.ascii("cd"));
+        dueHash("the same length", x, Bench.ascii("cd"), 5);
         x.end(0);
         Bench.put(x, "ce");
-        dueHash("the same length again", x, Bench.ascii("ce"));
+        dueHash("the same length again", x, Bench.ascii("ce"), 5);
         x.wants(0);
-        dueHash("an issuer", x, new byte[0]);
+        dueHash("an issuer", x, new byte[0], 5);
         Bench.put(x, "cf");
-        dueHash("of a key", x, Bench.ascii("cf"));
+        dueHash("of a key", x, Bench.ascii("cf"), 5);
         x.key(0, 1);
-        dueHash("a key", x, new byte[0]);
+        dueHash("a key", x, new byte[0], 5);
     }
 
     /** One hash alone is asked for again and again, with one call between that makes the TAPE another one. */
     private static void hashIsNeverStale() throws Exception {
         for (int alg = 0; alg < 2; alg++) {
-            TokenDesk x = new TokenDesk();
+            Desk x = new Desk();
             Bench.addKey(x, 0, "k", Bench.ascii("secret"));
             int size = x.issue(1, 0);
             byte[] twenty = Bench.hex("00000001 00000002 00000003 00000004 00000005");
@@ -148,7 +148,7 @@ public final class TapeTest {
         }
     }
 
-    private static void dueFirstByte(String what, TokenDesk x, int alg, byte[] tape) throws Exception {
+    private static void dueFirstByte(String what, Desk x, int alg, byte[] tape) throws Exception {
         byte[] want = MessageDigest.getInstance(alg == 0 ? "SHA-256" : "SHA-512").digest(tape);
         Bench.due(what + ": hash(" + alg + ", 0)", x.hash(alg, 0), want[0] & 255);
         Bench.due(what + ": hash(" + alg + ", 31)", x.hash(alg, 31), want[31] & 255);
@@ -158,18 +158,22 @@ public final class TapeTest {
         byte[] bytes = new byte[1500];
         new Random(1).nextBytes(bytes);
         for (int size = 0; size <= 1500; size += size < 300 ? 1 : 7) {
-            TokenDesk x = new TokenDesk();
+            Desk x = new Desk();
             byte[] row = java.util.Arrays.copyOf(bytes, size);
             Bench.put(x, row);
             dueHash(size + " bytes", x, row);
         }
     }
 
-    private static void dueHash(String what, TokenDesk x, byte[] tape) throws Exception {
+    private static void dueHash(String what, Desk x, byte[] tape) throws Exception {
+        dueHash(what, x, tape, 64);
+    }
+
+    private static void dueHash(String what, Desk x, byte[] tape, int bytes) throws Exception {
         Bench.due(what + ": count(6)", x.count(6), tape.length);
         for (int alg = 0; alg < 2; alg++) {
             byte[] want = MessageDigest.getInstance(alg == 0 ? "SHA-256" : "SHA-512").digest(tape);
-            for (int i = 0; i < want.length; i++) {
+            for (int i = 0; i < want.length && i < bytes; i++) {
                 Bench.due(what + ": hash(" + alg + ", " + i + ")", x.hash(alg, i), want[i] & 255);
             }
         }
