@@ -76,6 +76,17 @@ final class CborEdges {
         for (String open : new String[] {"5f4100ff", "5fff", "7f6161ff", "7fff", "9f00ff", "9fff", "bf0000ff", "bfff", "5f", "7f", "9f", "bf", "1f", "3f", "df00"}) {
             Judge.cborItem(open, 1);
         }
+        for (int first = 0x1c; first < 256; first += (first & 31) == 31 ? 29 : 1) {
+            // 28 to 31 tell no length: neither what is there nor the bytes that 28 and more would stand for.
+            for (int rest : new int[] {0, 1, 16, 32, 64, 128}) {
+                Judge.cborItem(byteHex(first) + "00".repeat(rest), 1);
+                Judge.cborItem(byteHex(first) + "ff".repeat(rest), 1);
+            }
+        }
+        // A number's own bytes that lack: those of what comes behind the row are not taken for them.
+        for (String lacking : new String[] {"18", "19", "1901", "1a", "1a000100", "1b", "1b00000001000000", "58", "78", "98", "b8"}) {
+            Judge.cborItem(lacking, 1);
+        }
         for (int n : new int[] {1, 5, 23}) {
             for (int more = -1; more <= 1; more++) {
                 int want = more == 0 ? 0 : 1;

@@ -277,8 +277,48 @@ final class TapeEdges {
                 }
             }
         }
+        hashFollowsTape();
         State.dueNothing("hash(0, 0)", busyWith(45), x -> x.hash(0, 0), Bench.digest(0, some(45))[0] & 255);
         State.dueNothing("hash(1, 63)", busyWith(45), x -> x.hash(1, 63), Bench.digest(1, some(45))[63] & 255);
+    }
+
+    /** The hash is asked for after each call that makes the TAPE another one, of the same length too. */
+    private static void hashFollowsTape() {
+        for (int alg = 0; alg < 2; alg++) {
+            Desk x = new Desk();
+            outAnd(0).on(x);
+            byte[] twenty = Bench.hex("00000001 00000002 00000003 00000004 00000005");
+            dueHash("empty", x, alg, new byte[0]);
+            x.feed(1, 2, 3, 4, 5);
+            dueHash("fed", x, alg, twenty);
+            x.end(0);
+            x.feed(1, 2, 3, 4, 6);
+            dueHash("as many other bytes", x, alg, Bench.join(Arrays.copyOf(twenty, 19), new byte[] {6}));
+            x.end(19);
+            dueHash("cut", x, alg, Arrays.copyOf(twenty, 19));
+            x.end(0);
+            x.back(0, 19);
+            dueHash("brought back", x, alg, Arrays.copyOf(token(), 19));
+            x.verify(0);
+            dueHash("VERIFIED", x, alg, new byte[0]);
+            x.back(1, 19);
+            dueHash("as many others brought back", x, alg, Arrays.copyOfRange(token(), 1, 20));
+            x.issue(1 - alg, 0);
+            dueHash("between MACs", x, alg, Arrays.copyOfRange(token(), 1, 20));
+            x.text(0);
+            dueHash("a text", x, alg, new byte[0]);
+            x.feed(1, 2, 3, 4, 5);
+            dueHash("fed again", x, alg, twenty);
+            x.key(0, 1);
+            dueHash("a KEY", x, alg, new byte[0]);
+        }
+    }
+
+    private static void dueHash(String what, Desk x, int alg, byte[] tape) {
+        byte[] want = Bench.digest(alg, tape);
+        for (int i = 0; i < 4; i++) {
+            Bench.due(what + ": hash(" + alg + ", " + i + ")", x.hash(alg, i), want[i] & 255);
+        }
     }
 
     private static void hashOfNone() {

@@ -110,6 +110,7 @@ final class VerifyEdges {
                 Bench.due("ACCEPTED", x.count(2), accepted + (i == 10 ? 1 : 0));
                 Bench.due("verify(" + family + ") of the TAPE that is empty then", x.end(1), -1);
             }
+            nothingIsLeft(family);
             int f = family;
             State.same("an ACCEPTED token changes what is told of it alone", y -> {
                 State.busy(y);
@@ -120,6 +121,61 @@ final class VerifyEdges {
                 Bench.verify(y, 1 - f, token(1 - f, f == 1 ? Judge.JSON_HEADER : Judge.CBOR_HEADER, f == 1
                         ? "{\"iss\":\"iss\",\"aud\":\"all\",\"exp\":2000}" : "a3 01 63697373 03 63616c6c 04 1907d0", SECRET));
             });
+        }
+    }
+
+    /** What a token held, ACCEPTED or refused, is no part of the next one. */
+    private static void nothingIsLeft(int family) {
+        boolean json = family == 0;
+        String header = json ? Judge.JSON_HEADER : Judge.CBOR_HEADER;
+        String[] refused = json
+                ? new String[] {"{\"aud\":[\"b\",\"a\"],\"exp\":0}", "{\"aud\":[1,2]}", "{\"iss\":1,\"exp\":-1}", "{\"aud\":" + Judge.list(21, "\"a\"") + "}", "{\"nbf\":9}"}
+                : new String[] {"a2 03 82 6162 6161 04 00", "a1 03 82 01 02", "a2 01 01 04 20", "a1 03 95" + "6161".repeat(21), "a1 05 09"};
+        int[] reasons = {7, 6, 6, 6, 8};
+        String plain = json ? "{\"aud\":[\"b\"]}" : "a1 03 81 6162";
+        String wanted = json ? "{\"aud\":[\"c\",\"a\"]}" : "a1 03 82 6163 6161";
+        for (int i = 0; i < refused.length; i++) {
+            Desk x = new Desk();
+            State.ready(x);
+            Bench.put(x, "a");
+            x.wants(1);
+            Bench.due("the one before", Bench.verify(x, family, token(family, header, refused[i], SECRET)), reasons[i]);
+            Bench.due("one without the AUDIENCE", Bench.verify(x, family, token(family, header, plain, SECRET)), 10);
+            Bench.due("one with it", Bench.verify(x, family, token(family, header, wanted, SECRET)), 0);
+            Bench.due("one without it again", Bench.verify(x, family, token(family, header, plain, SECRET)), 10);
+            Bench.due("one without AUD", Bench.verify(x, family, token(family, header, json ? "{}" : "a0", SECRET)), 10);
+            Bench.due("the latest's texts", x.count(1), 2);
+            Bench.due("the latest's first", x.sign(2, 0, 0), 'c');
+        }
+        manyRefused(family);
+    }
+
+    /** Tokens with all the names and signs that they have room for, broken off: a whole one that follows has room too. */
+    private static void manyRefused(int family) {
+        Desk x = new Desk();
+        State.ready(x);
+        StringBuilder json = new StringBuilder("{\"\":0");
+        for (int i = 0; i < 95; i++) {
+            json.append(",\"").append(i).append("\":0");
+        }
+        String text = "a".repeat(200);
+        byte[] broken = family == 0 ? Bench.jws(Judge.JSON_HEADER, json + ",", 0, SECRET)
+                : cose(Judge.CBOR_HEADER, "a1 07 82" + Judge.hexText(700));
+        byte[] whole = family == 0 ? jws(Judge.JSON_HEADER, "{\"iss\":" + Judge.quoted(text) + ",\"sub\":" + Judge.quoted(text) + "}")
+                : cose(Judge.CBOR_HEADER, "a2 01" + Judge.hexText(200) + "02" + Judge.hexText(200));
+        for (int i = 0; i < 7; i++) {
+            Bench.due("one that is broken off", Bench.verify(x, family, broken), 1);
+        }
+        Bench.due("a whole one", Bench.verify(x, family, whole), 0);
+        Bench.due("its SUB", x.has(1), 200);
+        Bench.due("its SUB's last sign", x.sign(1, 0, 199), 'a');
+        if (family == 0) {
+            Desk y = new Desk();
+            State.ready(y);
+            for (int i = 0; i < 6; i++) {
+                Bench.verify(y, 0, broken);
+            }
+            Bench.due("one with as many names", Bench.verify(y, 0, jws(Judge.JSON_HEADER, json + "}")), 0);
         }
     }
 
